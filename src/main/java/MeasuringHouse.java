@@ -148,6 +148,7 @@ public final class MeasuringHouse {
     private static final int FRAME_LOCKS = 5;
     private static final int FRAME_BASE = 6;
 
+    private static final int THROWN = 0;
     private static final int BY_ZERO = 1;
     private static final int NO_ELEMENT = 2;
     private static final int NIL_FOR_ARRAY = 3;
@@ -363,7 +364,12 @@ public final class MeasuringHouse {
         if (n < 0 || n > MOST_STEPS || !present.isThere()) {
             return NONE;
         }
-        return present.goOn(n);
+        int done = 0;
+        while (done < n && present.condition == GOES) {
+            present.step();
+            done++;
+        }
+        return done;
     }
 
     public int state(int what) {
@@ -938,18 +944,10 @@ public final class MeasuringHouse {
             }
         }
 
-        private void openOne() {
-            if (open >= MOST_OPEN) {
-                refuse();
-            } else {
+        private void openWith(int kind) {
+            if (at(kind) && open < MOST_OPEN) {
                 open++;
                 next();
-            }
-        }
-
-        private void openWith(int kind) {
-            if (at(kind)) {
-                openOne();
             } else {
                 refuse();
             }
@@ -958,8 +956,10 @@ public final class MeasuringHouse {
         private void closeWith(int kind) {
             if (at(kind)) {
                 open--;
+                next();
+            } else {
+                refuse();
             }
-            expect(kind);
         }
 
         private void breakRule(int token) {
@@ -1102,15 +1102,9 @@ public final class MeasuringHouse {
                 pending = text.addWay(n, LIST_END, ON);
             }
             boolean failsNever = kind == ENTRY || kind == TURN || kind == CATCH || kind == UNLOCK || kind == BREAK;
-            if (!failsNever) {
-                addFailureWay(n);
-            }
-        }
-
-        private void addFailureWay(int n) {
-            if (failing == OUTSIDE) {
+            if (!failsNever && failing == OUTSIDE) {
                 text.addWay(n, endNode(FAILED), BY_FAILURE);
-            } else {
+            } else if (!failsNever) {
                 failing = text.addWay(n, failing, BY_FAILURE);
             }
         }
@@ -1151,7 +1145,7 @@ public final class MeasuringHouse {
         private void readStatement() {
             switch (kinds[now]) {
                 case TOKEN_WORD:
-                    readWordStatement();
+                    readWordStatement(now);
                     break;
                 case KEY_IF:
                     readIf();
@@ -1188,38 +1182,22 @@ public final class MeasuringHouse {
             }
         }
 
-        private void readWordStatement() {
-            int word = now;
+        private void readWordStatement(int word) {
             next();
-            if (at('=')) {
-                readPut(word);
-            } else if (at('[')) {
-                readStore(word);
-            } else if (at('(')) {
-                int n = addNode(CALL, places[word]);
+            int kind = at('=') ? PUT : at('[') ? STORE : CALL;
+            int n = addNode(kind, places[word]);
+            if (kind == CALL) {
                 readArguments(OP_CALL, word);
-                endStatement(n);
             } else {
-                refuse();
+                if (kind == PUT) {
+                    text.node[NODE_SLOT][n] = tellSet(word, SET_OTHERWISE);
+                } else {
+                    text.addCode(OP_READ, word, 0);
+                    readBetween('[', ']');
+                }
+                expect('=');
+                readExpression(0);
             }
-        }
-
-        private void readPut(int word) {
-            int n = addNode(PUT, places[word]);
-            text.node[NODE_SLOT][n] = tellSet(word, SET_OTHERWISE);
-            next();
-            readExpression(0);
-            endStatement(n);
-        }
-
-        private void readStore(int word) {
-            int n = addNode(STORE, places[word]);
-            emit(OP_READ, word);
-            openWith('[');
-            readExpression(0);
-            closeWith(']');
-            expect('=');
-            readExpression(0);
             endStatement(n);
         }
 
@@ -1232,7 +1210,7 @@ public final class MeasuringHouse {
 
         private void endStatement(int n) {
             expect(';');
-            emit(OP_END, 0);
+            text.addCode(OP_END, 0, 0);
             text.addPlan(PLAN_STATEMENT, n);
         }
 
@@ -1249,7 +1227,7 @@ public final class MeasuringHouse {
             openWith('(');
             readExpression(0);
             closeWith(')');
-            emit(OP_END, 0);
+            text.addCode(OP_END, 0, 0);
         }
 
         private void readInnerBody() {
@@ -1295,12 +1273,12 @@ public final class MeasuringHouse {
             readExpression(0);
             expect(KEY_TO);
             readExpression(0);
-            emit(OP_END, 0);
+            text.addCode(OP_END, 0, 0);
             int outerBreaks = breaks;
             openLoop();
             int turn = addNode(TURN, place);
             text.node[NODE_SLOT][turn] = slot;
-            emit(OP_END, 0);
+            text.addCode(OP_END, 0, 0);
             readInnerBody();
             closeLoop(turn, outerBreaks);
             text.addPlan(PLAN_FOR, n);
@@ -1331,7 +1309,7 @@ public final class MeasuringHouse {
             int behind = pending;
             pending = failed;
             int n = addNode(CATCH, places[now]);
-            emit(OP_END, 0);
+            text.addCode(OP_END, 0, 0);
             expect(KEY_CATCH);
             if (at(TOKEN_WORD)) {
                 text.node[NODE_SLOT][n] = tellBound(now, SET_OTHERWISE);
@@ -1346,11 +1324,11 @@ public final class MeasuringHouse {
             int n = addNode(LOCK, places[now]);
             next();
             readExpression(0);
-            emit(OP_END, 0);
+            text.addCode(OP_END, 0, 0);
             lockDepth++;
             readInnerBody();
             addNode(UNLOCK, places[Math.max(0, now - 1)]);
-            emit(OP_END, 0);
+            text.addCode(OP_END, 0, 0);
             lockDepth--;
             text.addPlan(PLAN_LOCK, n);
         }
@@ -1400,10 +1378,6 @@ public final class MeasuringHouse {
             }
         }
 
-        private void emit(int op, int what) {
-            text.addCode(op, what, 0);
-        }
-
         private static int levelOf(int kind) {
             switch (kind) {
                 case '|':
@@ -1433,18 +1407,18 @@ public final class MeasuringHouse {
                 int op = kinds[now];
                 next();
                 readExpression(level + 1);
-                emit(op, 0);
+                text.addCode(op, 0, 0);
             }
         }
 
         private void readFactor() {
             switch (kinds[now]) {
                 case TOKEN_NUMBER:
-                    emit(OP_NUMBER, (int) words[now]);
+                    text.addCode(OP_NUMBER, (int) words[now], 0);
                     next();
                     break;
                 case KEY_NIL:
-                    emit(OP_NIL, 0);
+                    text.addCode(OP_NIL, 0, 0);
                     next();
                     break;
                 case TOKEN_WORD:
@@ -1459,7 +1433,7 @@ public final class MeasuringHouse {
                 case KEY_NEW:
                     next();
                     readBetween('[', ']');
-                    emit(OP_NEW, 0);
+                    text.addCode(OP_NEW, 0, 0);
                     break;
                 case KEY_LEN:
                     readAhead(OP_LEN);
@@ -1487,12 +1461,12 @@ public final class MeasuringHouse {
         }
 
         private void readAhead(int op) {
-            openOne();
+            openWith(kinds[now]);
             if (faultPlace == NONE) {
                 readFactor();
                 open--;
             }
-            emit(op, 0);
+            text.addCode(op, 0, 0);
         }
 
         private void readWordFactor() {
@@ -1502,10 +1476,10 @@ public final class MeasuringHouse {
                 readArguments(OP_CALL, word);
                 return;
             }
-            emit(OP_READ, word);
+            text.addCode(OP_READ, word, 0);
             if (at('[')) {
                 readBetween('[', ']');
-                emit(OP_ELEMENT, 0);
+                text.addCode(OP_ELEMENT, 0, 0);
             }
         }
 
@@ -1806,24 +1780,24 @@ public final class MeasuringHouse {
             text = null;
         }
 
-        /** Members come when all that they call have come; those that never do call in a ring, or lean on one. */
+        /** Members come when all that they call have come; those left then call in a ring, or lean on one. */
         void workOut(Text of) {
             if (text == of) {
                 return;
             }
             text = of;
-            Arrays.fill(known, false);
+            for (int m = 0; m < MOST_MEMBERS; m++) {
+                known[m] = false;
+            }
             for (int round = 0; round <= MOST_MEMBERS; round++) {
                 for (int m = 0; m < text.members; m++) {
-                    if (!known[m] && callsKnown(m)) {
+                    if (!known[m] && (round == MOST_MEMBERS || callsKnown(m))) {
+                        current = m;
+                        barredAt[m] = NONE;
+                        findNameUps();
                         workOutMember(m);
                         known[m] = true;
                     }
-                }
-            }
-            for (int m = 0; m < text.members; m++) {
-                if (!known[m]) {
-                    workOutMember(m);
                 }
             }
         }
@@ -1838,17 +1812,18 @@ public final class MeasuringHouse {
         }
 
         private void workOutMember(int m) {
-            current = m;
-            barredAt[m] = NONE;
-            findNameUps();
             sumCount = 0;
             openSum();
             for (int i = text.member[MEMBER_PLAN][m]; i < text.member[MEMBER_PLAN][m + 1]; i++) {
                 int op = text.plan[PLAN_OP][i];
+                int n = text.plan[PLAN_NODE][i];
                 if (op == PLAN_OPEN) {
                     openSum();
                 } else {
-                    addStatement(op, text.plan[PLAN_NODE][i]);
+                    openWhole(text.node[NODE_KIND][n]);
+                    boolean fine = climb(n, true);
+                    fine = addBodies(op, n) && fine;
+                    addToSum(n, fine);
                 }
             }
             System.arraycopy(sums[0], 0, formula[m], 0, TERMS);
@@ -1876,48 +1851,39 @@ public final class MeasuringHouse {
             return !broken[sumCount];
         }
 
-        private void addStatement(int op, int n) {
-            boolean fine;
+        /** What a statement comes to without calls and bodies. */
+        private void openWhole(int kind) {
+            Arrays.fill(whole, 0);
+            whole[0] = kind == JOIN || kind == LOCK ? 2 : 1;
+        }
+
+        private void addToSum(int n, boolean fine) {
+            int last = sumCount - 1;
+            broken[last] = !fine || broken[last] || !add(sums[last], whole, n);
+        }
+
+        /** Adds what a statement's bodies come to: whether nothing BARS in them or by them. */
+        private boolean addBodies(int op, int n) {
             switch (op) {
                 case PLAN_IF:
-                    fine = workOutIf(n);
-                    break;
+                    return addGreaterBody(n);
                 case PLAN_WHILE:
                     closeSum();
                     bar(n);
-                    fine = false;
-                    break;
+                    return false;
                 case PLAN_FOR:
-                    fine = workOutFor(n);
-                    break;
+                    return addTurningBody(n);
                 case PLAN_TRY:
-                    fine = workOutTry(n);
-                    break;
+                    return addBothBodies(n);
                 case PLAN_LOCK:
-                    fine = workOutLock(n);
-                    break;
+                    return closeSum() && add(whole, sums[sumCount], n) && addOne(whole, n);
                 default:
-                    fine = workOutHead(n);
-            }
-            int last = sumCount - 1;
-            if (!fine || broken[last]) {
-                broken[last] = true;
-            } else {
-                broken[last] = !add(sums[last], whole, n);
+                    return true;
             }
         }
 
-        /** What a statement comes to without its bodies. */
-        private boolean workOutHead(int n) {
-            int kind = text.node[NODE_KIND][n];
-            Arrays.fill(whole, 0);
-            whole[0] = kind == JOIN || kind == LOCK ? 2 : 1;
-            return climb(n, true);
-        }
-
-        private boolean workOutIf(int n) {
-            boolean fine = workOutHead(n);
-            fine = closeSum() && fine;
+        private boolean addGreaterBody(int n) {
+            boolean fine = closeSum();
             long[] other = sums[sumCount];
             fine = closeSum() && fine;
             long[] body = sums[sumCount];
@@ -1927,33 +1893,25 @@ public final class MeasuringHouse {
             return fine && add(whole, body, n);
         }
 
-        private boolean workOutFor(int n) {
-            boolean fine = workOutHead(n);
-            if (!findTurns()) {
-                bar(n);
-                fine = false;
-            }
-            fine = closeSum() && fine;
-            return fine && addNumber(whole, n) && addTurns(sums[sumCount], n);
-        }
-
-        private boolean workOutTry(int n) {
-            Arrays.fill(whole, 0);
+        private boolean addBothBodies(int n) {
             boolean fine = closeSum();
             long[] second = sums[sumCount];
             fine = closeSum() && fine;
             long[] first = sums[sumCount];
-            return fine && add(whole, first, n) && add(whole, second, n) && addNumber(whole, n);
+            return fine && add(whole, first, n) && add(whole, second, n);
         }
 
-        private boolean workOutLock(int n) {
-            boolean fine = workOutHead(n);
-            fine = closeSum() && fine;
-            return fine && add(whole, sums[sumCount], n) && addNumber(whole, n);
+        private boolean addTurningBody(int n) {
+            boolean fine = closeSum();
+            if (!findTurns()) {
+                bar(n);
+                return false;
+            }
+            return fine && addOne(whole, n) && addTurns(sums[sumCount], n);
         }
 
         /** Adds 1; what passes the greatest number BARS. */
-        private boolean addNumber(long[] row, int n) {
+        private boolean addOne(long[] row, int n) {
             row[0]++;
             if (row[0] > TOP) {
                 bar(n);
@@ -1978,7 +1936,7 @@ public final class MeasuringHouse {
             if (isZero(turns)) {
                 return true;
             }
-            if (!addNumber(body, n)) {
+            if (!addOne(body, n)) {
                 return false;
             }
             System.arraycopy(body, 0, product, 0, TERMS);
@@ -2002,22 +1960,15 @@ public final class MeasuringHouse {
         private boolean multiply(long[] parts) {
             System.arraycopy(product, 0, factor, 0, TERMS);
             Arrays.fill(product, 0);
-            for (int t = 0; t < TERMS; t++) {
-                if (factor[t] != 0 && !multiplyTerm(t, parts)) {
-                    return false;
-                }
-            }
-            return true;
-        }
-
-        private boolean multiplyTerm(int t, long[] parts) {
-            for (int i = 0; i < PARTS; i++) {
-                if (parts[i] != 0) {
-                    int to = raised[i][t];
-                    if (to == NONE || factor[t] > TOP / parts[i]) {
+            for (int i = 0; i < PARTS * TERMS; i++) {
+                long part = parts[i / TERMS];
+                long number = factor[i % TERMS];
+                if (part > 0 && number > 0) {
+                    int to = raised[i / TERMS][i % TERMS];
+                    if (to == NONE || number > TOP / part) {
                         return false;
                     }
-                    product[to] += factor[t] * parts[i];
+                    product[to] += number * part;
                     if (product[to] > TOP) {
                         return false;
                     }
@@ -2041,7 +1992,9 @@ public final class MeasuringHouse {
 
         /** Starting from none, a name gets its UP once all that it asks for has one: what leans on itself never does. */
         private void findNameUps() {
-            Arrays.fill(nameHasUp, false);
+            for (int name = 0; name < MOST_NAMES; name++) {
+                nameHasUp[name] = false;
+            }
             boolean more = true;
             for (int round = 0; round <= MOST_NAMES && more; round++) {
                 more = false;
@@ -2319,10 +2272,12 @@ public final class MeasuringHouse {
     /** A run: the threads (here: strands), their turns, and each step of them. */
     private static final class Run {
         private static final int COMPUTE = 0;
-        private static final int FINISH = 1;
-        private static final int GO = 2;
-        private static final int FAIL = 3;
-        private static final int DONE = 4;
+        private static final int CALL_NOW = 1;
+        private static final int START_NOW = 2;
+        private static final int FINISH = 3;
+        private static final int GO = 4;
+        private static final int FAIL = 5;
+        private static final int DONE = 6;
         private static final long NOT_SEEDED = -1;
         private static final long CHANCE_FACTOR = 1103515245L;
         private static final long CHANCE_MORE = 12345L;
@@ -2395,16 +2350,37 @@ public final class MeasuringHouse {
             settle();
         }
 
-        int goOn(int n) {
-            int done = 0;
-            while (done < n && condition == GOES) {
-                step();
-                done++;
+        void step() {
+            openStep();
+            for (int i = 0; i < WORK_ROOM && doing != DONE; i++) {
+                switch (doing) {
+                    case COMPUTE:
+                        compute();
+                        break;
+                    case CALL_NOW:
+                        callMember(text.code[CODE_WHAT][code - 1]);
+                        break;
+                    case START_NOW:
+                        startStrand(text.code[CODE_WHAT][code - 1]);
+                        break;
+                    case FINISH:
+                        finish();
+                        break;
+                    case GO:
+                        go();
+                        break;
+                    default:
+                        way = text.failureWay(strand.nodeNow());
+                        doing = GO;
+                }
             }
-            return done;
+            settle();
+            if (every > 0 && steps % every == 0) {
+                lookAround();
+            }
         }
 
-        private void step() {
+        private void openStep() {
             steps++;
             strand = strands[turn];
             strand.steps++;
@@ -2415,26 +2391,6 @@ public final class MeasuringHouse {
             doing = COMPUTE;
             if (strand.second) {
                 goOnBehindWait(n);
-            }
-            for (int i = 0; i < WORK_ROOM && doing != DONE; i++) {
-                work();
-            }
-            settle();
-            if (every > 0 && steps % every == 0) {
-                lookAround();
-            }
-        }
-
-        private void work() {
-            if (doing == COMPUTE) {
-                compute();
-            } else if (doing == FINISH) {
-                finish();
-            } else if (doing == GO) {
-                go();
-            } else {
-                way = text.failureWay(strand.nodeNow());
-                doing = GO;
             }
         }
 
@@ -2514,10 +2470,10 @@ public final class MeasuringHouse {
                     readElement();
                     break;
                 case OP_CALL:
-                    callMember(what);
+                    doing = CALL_NOW;
                     break;
                 case OP_START:
-                    startStrand(what);
+                    doing = START_NOW;
                     break;
                 case OP_NEW:
                     makeArray();
@@ -2537,13 +2493,9 @@ public final class MeasuringHouse {
         }
 
         private void fail(int kind) {
-            failWith(kind, kind);
-        }
-
-        private void failWith(int kind, long value) {
             ledger.failures[FAILURES_MADE][kind]++;
             failure = kind;
-            carried = value;
+            carried = kind;
             doing = FAIL;
         }
 
@@ -2680,6 +2632,7 @@ public final class MeasuringHouse {
             if (activate(strand, m, costs.treeNodeFor(strand.treeNow(), m))) {
                 strand.depth--;
                 strand.push(0);
+                doing = COMPUTE;
             } else {
                 doing = DONE;
             }
@@ -2704,6 +2657,7 @@ public final class MeasuringHouse {
             }
             if (number > 0) {
                 strand.push(number);
+                doing = COMPUTE;
             }
         }
 
@@ -2753,7 +2707,8 @@ public final class MeasuringHouse {
                     carried = strand.pop();
                     break;
                 case THROW:
-                    failWith(0, strand.pop());
+                    fail(THROWN);
+                    carried = strand.pop();
                     break;
                 case LOCK:
                     takeLock();
@@ -2932,7 +2887,7 @@ public final class MeasuringHouse {
         }
 
         int lookAround() {
-            gather();
+            store.gather(strands, strandCount);
             return store.noteLook(steps);
         }
 
