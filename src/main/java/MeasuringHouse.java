@@ -191,7 +191,8 @@ public final class MeasuringHouse {
             keepers[i] = new Keeper();
         }
         present = new Run(keepers);
-        Arrays.fill(prices, 0, ELEMENT, 1);
+        Arrays.fill(prices, 1);
+        prices[ELEMENT] = 0;
     }
 
     public int feed(int a, int b, int c, int d, int e) {
@@ -3021,7 +3022,9 @@ public final class MeasuringHouse {
             frame[FRAME_TREE][inner] = treeNode;
             frame[FRAME_LOCKS][inner] = 0;
             frame[FRAME_BASE][inner] = 0;
-            Arrays.fill(names, inner * MOST_NAMES, depth * MOST_NAMES, 0);
+            for (int i = inner * MOST_NAMES; i < depth * MOST_NAMES; i++) {
+                names[i] = 0;
+            }
         }
 
         int memberNow() {
@@ -3254,7 +3257,9 @@ public final class MeasuringHouse {
             array[ARRAY_USED][a] = step;
             array[ARRAY_MISSED][a] = NONE;
             array[ARRAY_FIRST][a] = elementCount;
-            Arrays.fill(elements, elementCount, elementCount + size, 0);
+            for (int i = 0; i < size; i++) {
+                elements[elementCount + i] = 0;
+            }
             elementCount += size;
             arrays++;
             return ARRAY_VALUE + a;
@@ -3292,7 +3297,7 @@ public final class MeasuringHouse {
 
         /** Lets all arrays that are REACHED come into the row, and tells by what each is HELD. */
         void gather(Strand[] strands, int count) {
-            Arrays.fill(holder, 0, arrays, NONE);
+            Arrays.fill(holder, NONE);
             rowLength = 0;
             for (int i = 0; i < MOST_VARS; i++) {
                 come(vars[i], HELD_ITSELF);

@@ -193,6 +193,55 @@ public final class CostTest {
             parts(1, *) = -7 -7 0 0
             parts(2, *) = 0 0 0 0
             """);
+        Due.play("Promise 21: WHOLE asked for first", """
+            text `a(){b();b();}b(){x=1;}` = 2
+            begin(0, 0, 0, 0) = 1
+            run(20000) = 4
+            tree(0, 4) = 4
+            tree(2, 4) = 4
+            tree(3, 4) = 2
+            """);
+        Due.play("Promise 27: a JOIN that needn't wait is behind the latest step of that thread, too", """
+            text `a(){x=start b();y=start c(x);join y;}b(){z=1;z=2;z=3;z=4;z=5;z=6;z=7;z=8;z=9;}c(p){join p;}` = 3
+            begin(0, 0, 0, 0) = 1
+            run(20000) = 14
+            state(1) = 14
+            thread(2, 8) = 0
+            longest(0) = 12
+            gain(3, 0) = 2
+            gain(3, 2) = 22
+            gain(14, 9) = 28
+            """);
+        Due.play("Promise 27: a LOCK that needn't wait is behind the latest step that let it go, of another thread", """
+            text `a(){x=start b();y=start c();}b(){lock 1{z=1;z=2;z=3;z=4;z=5;}}c(){lock 1{w=1;}}` = 3
+            begin(0, 0, 0, 0) = 1
+            run(20000) = 12
+            lock(1, *) = -1 2 0 0 0 8 6
+            longest(0) = 11
+            longest(1) = 12
+            gain(13, 5) = 19
+            """);
+        Due.play("Promise 33: places are empty behind a text", """
+            text `a(){x=1;}` = 1
+            begin(0, 0, 0, 0) = 1
+            run(9) = 1
+            keep(0) = 1
+            keep(1) = 1
+            text `a(){x=1;x=2;}b(){}` = 2
+            begin(0, 0, 0, 0) = 1
+            run(9) = 2
+            keep(0) = 1
+            parts(0, *) = 0 0 0 0
+            text `a(){x=1;x=2;}b(){}` = 2
+            begin(0, 0, 0, 0) = 1
+            run(9) = 2
+            keep(1) = 1
+            parts(0, *) = 0 0 0 0
+            begin(1, 0, 0, 0) = 1
+            keep(0) = 1
+            parts(0, *) = 2 0 2 0
+            parts(1, *) = 0 0 0 0
+            """);
         Due.end("CostTest");
     }
 }

@@ -90,6 +90,31 @@ public final class FormulaTest {
             text `a(p,q){if(1){for i=1 to p{x=1;}x=1;x=1;x=1;}else{for i=0 to q{x=1;}for i=1 to p{x=1;x=1;}}}b(p){if(c(p)){x=1;}}c(p){for i=1 to p{}}` = 3
             formulas() = 1 -1 3 / 7 0 0 0 0 / 2 0 1 0 0 / 3 1 0 0 0 / 1 -1 2 / 4 0 0 0 0 / 1 1 0 0 0 / 1 -1 2 / 2 0 0 0 0 / 1 1 0 0 0
             """);
+        Due.play("Promise 34: formulas are those of the text, however often it was another one", """
+            text `a(){x=1;}` = 1
+            formulas() = 1 -1 1 / 1 0 0 0 0
+            text `a(){x=1;x=2;}` = 1
+            text `a(){x=1;x=2;x=3;}` = 1
+            formulas() = 1 -1 1 / 3 0 0 0 0
+            bad `a(){` = 1 4
+            formulas() = 1 -1 1 / 3 0 0 0 0
+            """);
+        Due.play("Promise 34: bodies in bodies", """
+            text `a(p){for i=1 to p{if(1){x=1;if(2){x=2;x=3;}x=4;}lock 1{try{if(3){x=5;}else{x=6;x=7;}}catch e{for j=1 to 2{x=8;}x=9;}}}}` = 1
+            formulas() = 1 -1 2 / 2 0 0 0 0 / 21 1 0 0 0
+            """);
+        Due.play("Promise 34: what passes as 1 is added to a body, at BEGIN and at LOCK", """
+            text `a(){for z=1 to 1{for i=1 to 2000{for j=1 to 249999998{print 1;}}for k=1 to 998{print 1;}}}b(){lock 1{for i=1 to 2000{for j=1 to 249999998{print 1;}}for k=1 to 998{print 1;}}}c(){x=1;try{x=2;}catch e{for i=1 to 2000{for j=1 to 249999998{print 1;}}for k=1 to 998{print 1;}}}` = 3
+            formulas() = 0 4 0 / 0 94 0 / 0 191 0
+            """);
+        Due.play("Promise 34: arguments without UP, of each sort", """
+            text `a(p){b(999999999,0);}b(p,q){for i=1 to q{for j=1 to p{for k=1 to p{x=1;}}}}c(p){b(-p,1);}d(p){b(1,-p);}e(p){b(p[1],1);}f(p){b(1,p[1]);}g(p){b(len p,!p);}h(p){b(nil,0);}` = 8
+            formulas() = 1 -1 1 / 3 0 0 0 0 / 1 -1 4 / 2 0 0 0 0 / 3 0 1 0 0 / 3 1 1 0 0 / 2 2 1 0 0 / 0 80 0 / 0 94 0 / 0 108 0 / 0 124 0 / 1 -1 1 / 80606 0 0 0 0 / 0 158 0
+            """);
+        Due.play("Promise 34: a statement without STEPS of its own leaves those around it without any: nothing passes there", """
+            text `a(p){for i=1 to p{for j=1 to p{for k=1 to p{for l=1 to p{for m=1 to p{while(1){}}}}}}}b(p){for i=1 to p{for j=1 to p{for k=1 to p{for l=1 to p{for m=1 to p{x=1;}while(1){}}}}}}` = 2
+            formulas() = 0 70 0 / 0 161 0
+            """);
         Due.end("FormulaTest");
     }
 }

@@ -77,6 +77,19 @@ public final class KeeperTest {
             begin(0, 0, 0, 0) = 1
             kept(0, -1, 0) = 0
             """);
+        Due.play("Promise 31: rows that go in the midst of others; begin() forgets losses", """
+            text `a(){x=b(1);x=b(2);x=b(3);x=b(2);x=b(4);x=b(5);x=b(6);x=b(7);x=b(8);x=b(4);x=b(8);x=b(9);x=b(5);}b(p){y=p;return y;}` = 2
+            watch(1, 1, 3) = 1
+            begin(0, 0, 0, 0) = 1
+            run(20000) = 39
+            kept(1, -1, *) = 13 1 4 1 9 64
+            rows(1) = 2 1 / 4 1 / 5 1 / 8 1
+            begin(0, 0, 0, 0) = 1
+            kept(1, -1, *) = 0 0 0 0 0 0
+            run(6) = 6
+            kept(1, -1, *) = 2 0 2 1 2 3
+            rows(1) = 1 1 / 2 1
+            """);
         Due.end("KeeperTest");
     }
 }

@@ -301,6 +301,64 @@ public final class RunTest {
             loop(0, 0, *) = 4 1 5 5 5
             loop(0, 1, *) = 7 1 0 0 0
             """);
+        Due.play("Promises 11, 15, 26, 27: a run begun anew in the midst of another one knows nothing of it", """
+            text `var v;a(){lock 0{x=start b();x=start b();lock 0{v=new[3];v[0]=7;v[1]=8;}join c();}join 1;join 2;}b(){lock 0{if(v){y=1;}}}c(){return start e();}e(){z=1;z=2;z=3;}d(){x=start g();lock 0{x=1;}v=new[3];if(v[0]=0){print 5;}join 1;}g(){}` = 6
+            price(17, 5) = 0
+            begin(0, 0, 0, 0) = 1
+            run(14) = 14
+            lock(0, *) = 0 1 1 2 5 13 1
+            thread(1, *) = 1 1 1 3 0 0 1 -1 3
+            thread(0, *) = 2 1 0 11 3 3 10 -1 4
+            begin(4, 0, 0, 0) = 1
+            lock(0, *) = -1 0 0 0 0 0 0
+            thread(0, *) = 0 1 4 3 -1 -1 0 -1 0
+            run(20000) = 8
+            lock(0, *) = -1 1 0 0 0 2 1
+            thread(0, *) = 3 0 -1 -1 -1 -1 8 -1 0
+            thread(1, *) = 3 0 -1 -1 -1 -1 0 -1 0
+            printed(0) = 5
+            longest(0) = 23
+            gain(17, 0) = 8
+            gain(14, 7) = 29
+            gone(4, *) = 1 0 0 0
+            most(4, *) = 0 -1
+            begin(0, 0, 0, 0) = 1
+            run(20000) = 29
+            longest(0) = 39
+            gain(17, 0) = 24
+            begin(1, 0, 0, 0) = 1
+            run(20000) = 3
+            longest(0) = 3
+            gain(12, 6) = 8
+            thread(0, *) = 3 0 -1 -1 -1 -1 3 -1 0
+            lock(0, *) = -1 1 0 0 0 2 1
+            """);
+        Due.play("Promise 17: a PATH left in its midst by a new run", """
+            text `a(p){if(p){x=1;}x=2;}` = 1
+            argument(0, 1) = 0
+            begin(0, 0, 0, 0) = 1
+            run(1) = 1
+            argument(0, 0) = 1
+            begin(0, 0, 0, 0) = 1
+            run(20000) = 2
+            gone(0, *) = 0 0 0 1 0 0 -1 -1 -1
+            weigh(1) = 1
+            most(0, 0) = -1
+            gone(0, 0) = -1
+            """);
+        Due.play("Promise 15: threads that join thread 0, or wait to no end", """
+            text `a(){x=start b();y=1;y=2;}b(){join 0;print 3;}` = 2
+            begin(0, 0, 0, 0) = 1
+            run(4) = 4
+            thread(1, *) = 0 1 1 4 -1 -1 1 -1 0
+            run(20000) = 1
+            printed(0) = 3
+            state(*) = 2 5 -1 2
+            begin(0, 5, 0, 0) = 1
+            run(20000) = 6
+            printed(0) = 3
+            state(*) = 2 6 -1 2
+            """);
         Due.end("RunTest");
     }
 }

@@ -157,6 +157,15 @@ public final class StoreTest {
             held(0) = -2
             thread(0, 3) = 4
             """);
+        Due.play("Promises 22, 25: what was worked out is gone behind its node, behind a failure in its midst, too", """
+            text `var v;a(){x=len new[7];try{x=new[3]=f();}catch e{x=1;}v=new[2];v[c()]=d();x=2;}f(){throw 1;}c(){return 1;}d(){v=nil;return 1;}` = 4
+            begin(0, 0, 0, 1) = 1
+            run(20000) = 11
+            looks(13) = 0 0 / 1 40 / 0 0 / 0 0 / 0 0 / 1 32 / 1 32 / 1 32 / 1 32 / 0 0 / 0 0 / -1 -1 / -1 -1
+            held(0) = -1
+            held(1) = -1
+            held(2) = -1
+            """);
         Due.end("StoreTest");
     }
 }

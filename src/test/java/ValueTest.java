@@ -148,6 +148,20 @@ public final class ValueTest {
             thrown(0, *) = 3 3 0 0
             thrown(1, *) = 2 2 0 0
             """);
+        Due.play("Part 3: what a member gives that ends without a return, at once, behind a call, a failure or a wait", """
+            text `a(){print 5-e();print 5-b();print 5-d();print 5-j();print 5-f();}e(){}b(){x=c();}c(){return 4;}d(){try{throw 3;}catch e{}}j(){join start c();}f(){for i=1 to 2{}}` = 7
+            begin(0, 0, 0, 0) = 1
+            run(99) = 16
+            printed(*) = 5 5 5 5 5
+            """);
+        Due.play("Part 3: a start is an activation, too", """
+            text `a(){for i=1 to 300{try{x=f();}catch e{print i;try{x=start e();}catch g{print g;}try{e();}catch g{print g;}return 0;}}}f(){return e()+e()+e()+e()+e()+e()+e()+e()+e()+e()+e()+e()+e()+e()+e()+e()+e()+e()+e()+e()+e()+e()+e()+e()+e()+e()+e()+e()+e()+e()+e()+e()+e()+e()+e()+e()+e()+e()+e()+e()+e()+e()+e()+e()+e()+e()+e()+e()+e()+e()+e()+e()+e()+e()+e()+e()+e()+e()+e()+e()+e()+e()+e()+e()+e()+e()+e()+e()+e()+e()+e()+e()+e()+e()+e()+e()+e()+e()+e()+e()+e()+e()+e()+e()+e()+e()+e()+e()+e()+e()+e()+e()+e()+e()+e()+e()+e()+e()+e()+e()+e()+e()+e()+e()+e()+e()+e()+e()+e()+e()+e()+e()+e()+e()+e()+e()+e()+e()+e()+e();}e(){}` = 3
+            begin(0, 0, 0, 0) = 1
+            run(20000) = 754
+            printed(*) = 248 7 7
+            thrown(7, *) = 3 3 1 0
+            state(3) = 1
+            """);
         Due.end("ValueTest");
     }
 }
