@@ -1396,7 +1396,7 @@ public final class MeasuringHouse {
             }
         }
 
-        /** An expression of operators of a level and closer ones; how deep this goes is kept low by what may be open. */
+        /** An expression of operators of a level and closer ones; what may be open keeps its depth low. */
         private void readExpression(int level) {
             if (level >= LEVELS) {
                 readFactor();
@@ -1991,7 +1991,7 @@ public final class MeasuringHouse {
             return turns[0] <= TOP;
         }
 
-        /** Starting from none, a name gets its UP once all that it asks for has one: what leans on itself never does. */
+        /** A name gets its UP once all that it asks for has one, so that what leans on itself never does. */
         private void findNameUps() {
             for (int name = 0; name < MOST_NAMES; name++) {
                 nameHasUp[name] = false;
@@ -2026,7 +2026,7 @@ public final class MeasuringHouse {
             return true;
         }
 
-        /** Works out the UPs of a node's expressions; with counting, calls come to the whole, or BAR: whether none does. */
+        /** Works out the UPs of a node's expressions; with counting, calls come to the whole: whether none BARS. */
         private boolean climb(int n, boolean counting) {
             top = 0;
             boolean fine = true;
@@ -2997,7 +2997,7 @@ public final class MeasuringHouse {
         final long[] names = new long[MOST_DEPTH * MOST_NAMES];
         final long[] operands = new long[MOST_DEPTH * OPERAND_ROOM];
         final int[] locks = new int[MOST_DEPTH * NESTS];
-        /** Of the loops that a frame stands in, outermost first: TURNS so far; of a for the next number, and the last. */
+        /** Of the loops that a frame stands in, outermost first: TURNS so far; of a for its next and its last number. */
         final int[] turns = new int[MOST_DEPTH * NESTS];
         final long[] next = new long[MOST_DEPTH * NESTS];
         final long[] last = new long[MOST_DEPTH * NESTS];
