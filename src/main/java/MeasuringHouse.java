@@ -2997,7 +2997,7 @@ public final class MeasuringHouse {
         final long[] names = new long[MOST_DEPTH * MOST_NAMES];
         final long[] operands = new long[MOST_DEPTH * OPERAND_ROOM];
         final int[] locks = new int[MOST_DEPTH * NESTS];
-        /** Of the loops that a frame stands in, outermost first: TURNS so far; of a for its next and its last number. */
+        /** Of the loops that a frame stands in, outermost first: TURNS so far; of a for its next and last number. */
         final int[] turns = new int[MOST_DEPTH * NESTS];
         final long[] next = new long[MOST_DEPTH * NESTS];
         final long[] last = new long[MOST_DEPTH * NESTS];
