@@ -5,13 +5,19 @@ import java.util.ArrayList;
 import java.util.HashMap;
 import java.util.List;
 import java.util.Map;
+import java.util.regex.Matcher;
+import java.util.regex.Pattern;
 
 /**
  * Plays runs of calls on new objects and tells each call whose answer is not the one that is due. A line of a play is a
  * call with its due answer, "run(5) = 1"; a * among the arguments stands for 0, 1, 2, .. , one for each answer that is
- * due. A / between answers is for the reader alone. The lines that are no calls of the face:
- *   text `..`    feeds and loads a text (a ~ is a byte 10): what load() answers
- *   bad `..`     feeds and loads a text with a fault: the FAULT and its place
+ * due. A / between answers is for the reader alone. Lines with a text feed and load it; in a text a ~ is a byte 10,
+ * $3[x=1;$] stands for x=1;x=1;x=1; and a ^ (no byte of the text) marks a place. The lines that are no calls of the face:
+ *   text `..`    what load() answers
+ *   bad `..`     a text with a fault: the FAULT, and its place (which is not told in the line if a ^ marks it)
+ *   fails `..`   a run of member 0: the KIND of failure that ended its first thread, NONE if none did
+ *   bars `..`    what load() answers; a ^ marks the node that BARS, of each member that has no FORMULA
+ *   outside f(0..2, 0..7)  f with each argument just below, just above and far from what it may be: the one answer
  *   fill(n)      feeds n times: what the last feed() answers
  *   nodes(m)     of each node KIND, place, DEPTH
  *   ways(m)      of each way its six answers
@@ -81,22 +87,39 @@ final class Due {
                 want.add(Long.parseLong(number));
             }
         }
+        if (call.contains("`")) {
+            call = spelledOut(call);
+            want.addAll(marks(call));
+        }
         List<Long> got = answers(call, want.size());
         if (!got.equals(want)) {
             tell(title + ": " + call, got.toString(), want.toString());
         }
     }
 
+    private static String spelledOut(String call) {
+        Matcher again = Pattern.compile("\\$(\\d+)\\[([^$]*)\\$\\]").matcher(call);
+        return again.replaceAll(all -> Matcher.quoteReplacement(all.group(2).repeat(Integer.parseInt(all.group(1)))));
+    }
+
+    /** The places that a ^ marks, counted without these. */
+    private static List<Long> marks(String call) {
+        List<Long> marks = new ArrayList<>();
+        int first = call.indexOf('`') + 1;
+        for (int at = call.indexOf('^'); at >= 0; at = call.indexOf('^', at + 1)) {
+            marks.add((long) at - first - marks.size());
+        }
+        return marks;
+    }
+
     private List<Long> answers(String call, int due) {
+        if (call.contains("`")) {
+            String text = call.substring(call.indexOf('`') + 1, call.lastIndexOf('`'));
+            return textAnswers(call, load(house, text.replace('~', '\n').replace("^", "")));
+        }
         List<Long> got = new ArrayList<>();
-        if (call.startsWith("text `") || call.startsWith("bad `")) {
-            long members = load(house, call.substring(call.indexOf('`') + 1, call.lastIndexOf('`')).replace('~', '\n'));
-            if (call.startsWith("text")) {
-                got.add(members);
-            } else {
-                got.add(members == MeasuringHouse.NONE ? (long) house.fault(0) : 0);
-                got.add((long) house.fault(1));
-            }
+        if (call.startsWith("outside ")) {
+            add(got, outside(call.substring(8)));
             return got;
         }
         String name = call.substring(0, call.indexOf('('));
@@ -110,6 +133,48 @@ final class Due {
             got.add(answer(name, arguments, i));
         }
         return got;
+    }
+
+    private List<Long> textAnswers(String call, long members) {
+        List<Long> got = new ArrayList<>();
+        if (call.startsWith("bad")) {
+            add(got, members == MeasuringHouse.NONE ? house.fault(0) : 0, house.fault(1));
+        } else if (call.startsWith("fails")) {
+            house.begin(0, 0, 0, 0);
+            house.run(20000);
+            add(got, house.thread(0, 7));
+        } else {
+            add(got, members);
+            for (int m = 0; m < members && call.startsWith("bars"); m++) {
+                if (house.bound(m, -1, 0) == 0) {
+                    add(got, house.bound(m, -1, 1));
+                }
+            }
+        }
+        return got;
+    }
+
+    /** The answer of a call with one argument outside of its bounds, the others being at their first. */
+    private long outside(String call) {
+        String name = call.substring(0, call.indexOf('('));
+        String[] bounds = call.substring(call.indexOf('(') + 1, call.lastIndexOf(')')).split(",");
+        String[] arguments = new String[bounds.length];
+        long answer = Long.MIN_VALUE;
+        for (int i = 0; i < bounds.length; i++) {
+            long first = Long.parseLong(bounds[i].trim().split("\\.\\.")[0]);
+            long last = Long.parseLong(bounds[i].trim().split("\\.\\.")[1]);
+            for (long v : new long[] {first - 1, last + 1, Integer.MIN_VALUE, Integer.MAX_VALUE}) {
+                if ((v < first || v > last) && v == (int) v) {
+                    for (int k = 0; k < bounds.length; k++) {
+                        arguments[k] = k == i ? String.valueOf(v) : bounds[k].trim().split("\\.\\.")[0];
+                    }
+                    long got = answer(name, arguments, 0);
+                    is(name + String.join(",", arguments), got, answer == Long.MIN_VALUE ? got : answer);
+                    answer = got;
+                }
+            }
+        }
+        return answer;
     }
 
     private long answer(String name, String[] arguments, int star) {

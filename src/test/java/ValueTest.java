@@ -121,7 +121,7 @@ public final class ValueTest {
             state(7) = 60
             """);
         Due.play("Part 3: the 30,001st activation", """
-            text `a(){for i=1 to 300{try{x=f();}catch e{print i;print e;return 0;}}}f(){return e()+e()+e()+e()+e()+e()+e()+e()+e()+e()+e()+e()+e()+e()+e()+e()+e()+e()+e()+e()+e()+e()+e()+e()+e()+e()+e()+e()+e()+e()+e()+e()+e()+e()+e()+e()+e()+e()+e()+e()+e()+e()+e()+e()+e()+e()+e()+e()+e()+e()+e()+e()+e()+e()+e()+e()+e()+e()+e()+e()+e()+e()+e()+e()+e()+e()+e()+e()+e()+e()+e()+e()+e()+e()+e()+e()+e()+e()+e()+e()+e()+e()+e()+e()+e()+e()+e()+e()+e()+e()+e()+e()+e()+e()+e()+e()+e()+e()+e()+e()+e()+e()+e()+e()+e()+e()+e()+e()+e()+e()+e()+e()+e()+e()+e()+e()+e()+e()+e()+e();}e(){}` = 3
+            text `a(){for i=1 to 300{try{x=f();}catch e{print i;print e;return 0;}}}f(){return e()$119[+e()$];}e(){}` = 3
             begin(0, 0, 0, 0) = 1
             run(20000) = 749
             printed(*) = 248 7
@@ -155,7 +155,7 @@ public final class ValueTest {
             printed(*) = 5 5 5 5 5
             """);
         Due.play("Part 3: a start is an activation, too", """
-            text `a(){for i=1 to 300{try{x=f();}catch e{print i;try{x=start e();}catch g{print g;}try{e();}catch g{print g;}return 0;}}}f(){return e()+e()+e()+e()+e()+e()+e()+e()+e()+e()+e()+e()+e()+e()+e()+e()+e()+e()+e()+e()+e()+e()+e()+e()+e()+e()+e()+e()+e()+e()+e()+e()+e()+e()+e()+e()+e()+e()+e()+e()+e()+e()+e()+e()+e()+e()+e()+e()+e()+e()+e()+e()+e()+e()+e()+e()+e()+e()+e()+e()+e()+e()+e()+e()+e()+e()+e()+e()+e()+e()+e()+e()+e()+e()+e()+e()+e()+e()+e()+e()+e()+e()+e()+e()+e()+e()+e()+e()+e()+e()+e()+e()+e()+e()+e()+e()+e()+e()+e()+e()+e()+e()+e()+e()+e()+e()+e()+e()+e()+e()+e()+e()+e()+e()+e()+e()+e()+e()+e()+e();}e(){}` = 3
+            text `a(){for i=1 to 300{try{x=f();}catch e{print i;try{x=start e();}catch g{print g;}try{e();}catch g{print g;}return 0;}}}f(){return e()$119[+e()$];}e(){}` = 3
             begin(0, 0, 0, 0) = 1
             run(20000) = 754
             printed(*) = 248 7 7
