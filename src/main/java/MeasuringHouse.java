@@ -2888,6 +2888,9 @@ public final class MeasuringHouse {
         }
 
         int lookAround() {
+            if (store.looks >= MOST_LOOKS) {
+                return NONE;
+            }
             store.gather(strands, strandCount);
             return store.noteLook(steps);
         }

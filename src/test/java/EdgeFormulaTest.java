@@ -45,6 +45,9 @@ public final class EdgeFormulaTest {
             bound(3, 0, 0) = 1000000000000
             bound(5, 0, 0) = 1000000000000
             """.replace("T`", T));
+        Due.play("with numbers up to 10 to the 12th: what passes by the calls alone, whatever is in the bodies", """
+            bars `a(){^if(t(996)){while(1){}}}b(){^for i=1 to t(996)%2{while(1){}}}c(){^lock t(995){while(1){}}}T` = 4
+            """.replace("T`", T));
         Due.play("STEPS of a body: what passes as it is added BARS at its node", """
             bars `a(){x=1;t(994);}b(){x=1;^t(995);}c(){t(994);x=1;}d(){t(995);^x=1;}f(){t(994);x=1;^x=2;x=3;}g(){t(995);^if(1){}}h(){t(995);try{}^catch e{}}k(){t(995);^lock 1{}}l(){t(995);^for i=1 to 0{}}T` = 10
             """.replace("T`", T));
@@ -84,6 +87,18 @@ public final class EdgeFormulaTest {
             text `a(p){for i=1 to 0{}}b(p){for i=1 to -9{}}c(p){for i=1 to -9+p{}}d(p){for i=1 to p+p+p{}}e(p){for i=1 to p-999999999{}}f(p){for i=1 to 5-3{}}g(p){for i=1 to -5*3{}}h(p){for i=1 to 3*-5{}}k(p){for i=1 to p*2*3{}}l(p){for i=1 to 2*3{}}m(p){for i=1 to 0*p{}}n(p){for i=1 to p*0{}}o(p){for i=1 to p/1{}}q(p){for i=1 to p%1{}}r(p){for i=1 to p%999999999{}}s(p){for i=1 to len nil{}}t(p){for i=1 to nil=p{}}u(p){for i=1 to !nil{}}v(p){for i=1 to -(9){}}w(p){for i=1 to (p)-(9){}}` = 20
             formulas() = 1 -1 1 / 2 0 0 0 0 / 1 -1 1 / 2 0 0 0 0 / 1 -1 2 / 2 0 0 0 0 / 1 1 0 0 0 / 1 -1 2 / 2 0 0 0 0 / 3 1 0 0 0 / 1 -1 2 / 2 0 0 0 0 / 1 1 0 0 0 / 1 -1 1 / 7 0 0 0 0 / 1 -1 1 / 2 0 0 0 0 / 1 -1 1 / 2 0 0 0 0 / 1 -1 2 / 2 0 0 0 0 / 6 1 0 0 0 / 1 -1 1 / 8 0 0 0 0 / 1 -1 1 / 2 0 0 0 0 / 1 -1 1 / 2 0 0 0 0 / 1 -1 2 / 2 0 0 0 0 / 1 1 0 0 0 / 1 -1 1 / 2 0 0 0 0 / 1 -1 1 / 1000000000 0 0 0 0 / 1 -1 1 / 202 0 0 0 0 / 1 -1 1 / 3 0 0 0 0 / 1 -1 1 / 3 0 0 0 0 / 1 -1 1 / 2 0 0 0 0 / 1 -1 2 / 2 0 0 0 0 / 1 1 0 0 0
             """);
+        Due.play("UP: a NAME whose second end leans on the next one, through all 16", """
+            text `a(){for b=1 to c{}for c=1 to d{}for d=1 to e{}for e=1 to f{}for f=1 to g{}for g=1 to h{}for h=1 to i{}for i=1 to j{}for j=1 to k{}for k=1 to l{}for l=1 to m{}for m=1 to n{}for n=1 to o{}for o=1 to p{}for p=1 to q{}for q=1 to 3{}}` = 1
+            bound(0, *, 0) = 80 -1
+            """);
+        Due.play("calls: through all 24 members, each told behind the one that calls it; and round all 24", """
+            text `a(){x=b();}b(){x=c();}c(){x=d();}d(){x=e();}e(){x=f();}f(){x=g();}g(){x=h();}h(){x=i();}i(){x=j();}j(){x=k();}k(){x=l();}l(){x=m();}m(){x=n();}n(){x=o();}o(){x=p();}p(){x=q();}q(){x=r();}r(){x=s();}s(){x=t();}t(){x=u();}u(){x=v();}v(){x=w();}w(){x=x();}x(){x=1;}` = 24
+            bound(0, *, 0) = 24 -1
+            bound(22, *, 0) = 2 -1
+            text `a(){x=b();}b(){x=c();}c(){x=d();}d(){x=e();}e(){x=f();}f(){x=g();}g(){x=h();}h(){x=i();}i(){x=j();}j(){x=k();}k(){x=l();}l(){x=m();}m(){x=n();}n(){x=o();}o(){x=p();}p(){x=q();}q(){x=r();}r(){x=s();}s(){x=t();}t(){x=u();}u(){x=v();}v(){x=w();}w(){x=x();}x(){x=a();}` = 24
+            bound(0, -1, *) = 0 4 0
+            bound(23, -1, *) = 0 257 0
+            """);
         Due.play("UP: a NAME that is no parameter and set by one for alone: UP of that one's second end", """
             bars `a(p){for i=1 to p{}for j=1 to i+1{}}b(p){for j=1 to i{}for i=1 to p{}}c(p){for i=1 to 3{}^for j=1 to i{}i=1;}d(p){for i=1 to 3{}^for j=1 to i{}for i=1 to 3{}}e(p){for i=1 to 3{}^for j=1 to i{}try{}catch i{}}f(p){for p=1 to 3{^for j=1 to p{}}}g(p){^for i=1 to i{}}h(p){for j=1 to 2{for k=1 to j{for l=1 to k{}}}}` = 8
             bound(0, *, 0) = 5 2 -1
@@ -97,7 +112,7 @@ public final class EdgeFormulaTest {
             bars `var v;a(p){^for i=1 to v{}}b(p){^for i=1 to nil{}}c(p){^for i=1 to -p{}}d(p){^for i=1 to - -3{}}e(p){^for i=1 to -(3+1){}}f(p){^for i=1 to 5-p{}}g(p){^for i=1 to p- -5{}}h(p){^for i=1 to p-(5+1){}}k(p){^for i=1 to p*p{}}l(p){^for i=1 to p*(2+3){}}m(p){^for i=1 to 2*3*p{}}n(p){^for i=1 to p/0{}}o(p){^for i=1 to p/-2{}}q(p){^for i=1 to 6/p{}}r(p){^for i=1 to p%0{}}s(p){^for i=1 to p%p{}}t(p){^for i=1 to p[0]{}}u(p){^for i=1 to u1(){}}u1(){}w(p){^for i=1 to start u1(){}}x(p){^for i=1 to new[1]{}}` = 21
             """);
         Due.play("and none of what would pass those numbers; what these sentences don't ask for doesn't matter", """
-            bars `a(p){for i=1 to (999999999*1000+1000)*0{}}b(p){^for i=1 to (999999999*1000+1001)*0{}}c(p){for i=1 to (p*999999999*1000+p*1000)*0{}}d(p){^for i=1 to (p*999999999*1000+p*1001)*0{}}e(p){^for i=1 to 0*(p*999999999*1001){}}f(p){for i=1 to (p*999999999*1001)%5{}}g(p){for i=1 to len (p*999999999*1001){}}h(p){for i=1 to (999999999*1000+1001)>nil{}}k(p){^for i=1 to 0*nil{}}l(p){^for i=1 to nil*0{}}m(p){for i=1 to (p/0)%3{}}n(p){^for i=1 to (999999999*1000+1001)/2{}}` = 12
+            bars `a(p){for i=1 to (999999999*1000+1000)*0{}}b(p){^for i=1 to (999999999*1000+1001)*0{}}c(p){for i=1 to (p*999999999*1000+p*1000)*0{}}d(p){^for i=1 to (p*999999999*1000+p*1001)*0{}}e(p){^for i=1 to 0*(p*999999999*1001){}}f(p){for i=1 to (p*999999999*1001)%5{}}g(p){for i=1 to len (p*999999999*1001){}}h(p){for i=1 to (999999999*1000+1001)>nil{}}k(p){^for i=1 to 0*nil{}}l(p){^for i=1 to nil*0{}}m(p){for i=1 to (p/0)%3{}}n(p){^for i=1 to (999999999*1000+1001)/2{}}o(p){for i=1 to (1000000*1000000)*0{}}q(p){^for i=1 to (1000000*1000001)*0{}}` = 14
             bound(0, *, 0) = 2 -1
             bound(5, *, 0) = 6 -1
             """);
@@ -178,6 +193,9 @@ public final class EdgeFormulaTest {
             worst(0, 0, 2147483647, 0, 0) = 2147483651
             worst(0, 0, 0, 0, 0) = 4
             worst(2, 9, 9, 9, 9) = 0
+            text `a(p,q){for i=1 to p*465661{for j=1 to q{}}}` = 1
+            worst(0, 1, 2147483647, 0, 0) = 999999383942652
+            worst(0, 2, 2147483647, 0, 0) = 1000000000000000
             """);
         Due.play("Promise 35: 0 for one below 0; those beyond its parameters don't count; NONE without", """
             worst(0, 0, 0, 0, 0) = -1

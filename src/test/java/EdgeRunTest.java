@@ -174,6 +174,19 @@ public final class EdgeRunTest {
             thread(0, 0) = 3
             thread(1, 7) = 7
             """);
+        Due.play("7 the 41st activation in a thread: 40 with a loop under way in each", """
+            text `a(p){for i=1 to 2{if(i=1){if(p>1){a(p-1);}}}}` = 1
+            argument(0, 40) = 0
+            begin(0, 0, 0, 0) = 1
+            run(20000) = 319
+            loop(0, 0, *) = 4 40 80 2 2 40 0 0 0
+            thread(0, 0) = 3
+            argument(0, 41) = 40
+            begin(0, 0, 0, 0) = 1
+            run(20000) = 200
+            loop(0, 0, *) = 4 40 40 1 1 0 0 0 40
+            thread(0, 7) = 7
+            """);
         Due.play("7 the 30001st in a run (first ones of threads are activations, too): 29,999, then one or two more", """
             text `a(){for i=1 to 299{f();}g();e();}b(){for i=1 to 299{f();}g();e();e();}c(){for i=1 to 299{f();}g();x=start e();}d(){for i=1 to 299{f();}g();x=start e();e();}k(){for i=1 to 299{f();}g();e();x=start e();}f(){x=e()$98[+e()$];}g(){x=e()$96[+e()$];}e(){}` = 8
             begin(0, 0, 0, 0) = 1
@@ -366,6 +379,16 @@ public final class EdgeRunTest {
             run(9) = 1
             state(*) = 2 7 -1 3
             thread(0, 8) = 2
+            """);
+        Due.play("LOCK: thread 0 WAITS for one that another thread has; what is told in the midst of that", """
+            text `a(){x=start b();join start d();lock 1{y=1;}}b(){lock 1{join 2;w=1;w=2;}}d(){z=1;}` = 3
+            begin(0, 0, 0, 0) = 1
+            run(9) = 9
+            lock(1, *) = 1 1 0 1 2 6 2
+            thread(0, *) = 1 1 0 5 1 1 4 -1 5
+            run(20000) = 5
+            lock(1, *) = -1 2 0 1 4 11 3
+            thread(0, *) = 3 0 -1 -1 -1 -1 7 -1 7
             """);
         Due.play("8 a join of itself, in another thread than the first, too", """
             text `a(){x=start b();join x;}b(){try{join 1;}catch e{print e;}join 0;}` = 2

@@ -91,6 +91,17 @@ public final class EdgeTextTest {
             bad `a(){x=1^abcdefghi;}` = 1
             bad `a(){x=^123456789012a;}` = 1
             """);
+        Due.play("ex: an or wherever an ex may stand", """
+            text `a(){if(0|1){print 1;}while(0|0){}for i=0|1 to 0|2{print i;}lock 0|1{print 3;}x=new[0|1];x[1&0|0]=(0|4)+3;print x[0|0];b(0|1,0|0);return 0|1;}b(p,q){print p;print q;}c(){x=start b(0|1,0|0)|0;join 0|x;print 0|7;throw 0|1;}` = 3
+            begin(0, 0, 0, 0) = 1
+            run(20000) = 17
+            printed(*) = 1 1 3 4 1 0 0
+            lock(1, 1) = 1
+            begin(2, 0, 0, 0) = 1
+            run(20000) = 7
+            printed(*) = 1 0 1 0
+            thread(0, 7) = 0
+            """);
         Due.play("Blanks (32) and bytes 10 may stand between", """
             text `~ ~a ~( ~p~,q )~{ x ~=~1 ;x~[ 0~] = nil;}~~  ` = 1
             member(0, 0) = 3
@@ -435,6 +446,20 @@ public final class EdgeTextTest {
             fault(*) = 1 11
             feed(1630022011, 2103584809, 2071814952, 695958784, 0) = 20
             load(15) = 3
+            """);
+        Due.play("Promise 3: the first n bytes of the tape: a word or number that goes on behind these is as long as it is there", """
+            feed(1630022011, 2017276210, 859059510, 926431536, 0) = 20
+            load(15) = -1
+            fault(*) = 1 15
+            feed(1630022011, 2017276210, 859059510, 926431536, 0) = 20
+            load(16) = -1
+            fault(*) = 1 6
+            feed(1630022011, 1633837924, 1701209960, 1761607680, 0) = 20
+            load(12) = -1
+            fault(*) = 1 12
+            feed(1630022011, 1633837924, 1701209960, 1761607680, 0) = 20
+            load(13) = -1
+            fault(*) = 1 4
             """);
         Due.play("Promise 3: -2, doing nothing, when n is below 0 or more than there are", """
             load(1) = -2

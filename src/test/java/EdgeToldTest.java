@@ -291,6 +291,13 @@ public final class EdgeToldTest {
             gain(3, 0) = 6
             gain(12, 10) = 34
             """);
+        Due.play("LONGEST WAY: a JOIN of thread 0 alone", """
+            text `a(){x=start b();$5[y=1;$]}b(){join 0;}` = 2
+            begin(0, 0, 0, 0) = 1
+            run(20000) = 7
+            longest(0) = 7
+            gain(14, 3) = 9
+            """);
         Due.play("LONGEST WAY: without any step, so far, and of a run that is not ended", """
             text `a(){x=start b();y=1;}b(){z=1;z=2;}` = 2
             longest(0) = -1
@@ -473,6 +480,18 @@ public final class EdgeToldTest {
             weigh(0) = 1
             keep(0) = -1
             parts(1, *) = 10 0 10 0
+            """);
+        Due.play("Promise 33: 0 when a place is empty: place 0, then place 1", """
+            text `a(){x=1;}` = 1
+            begin(0, 0, 0, 0) = 1
+            run(9) = 1
+            keep(1) = 1
+            parts(0, *) = 0 0 0 0
+            text `a(){x=1;}` = 1
+            begin(0, 0, 0, 0) = 1
+            run(9) = 1
+            keep(0) = 1
+            parts(0, *) = 0 0 0 0
             """);
         Due.play("Promise 33: place 1 alone; Promise 32: in the run so far, calls at once, threads' first ones, too", """
             text `a(){x=start b();b();}b(){y=1;y=2;}` = 2
