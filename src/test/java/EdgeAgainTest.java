@@ -10,6 +10,7 @@ public final class EdgeAgainTest {
         runsLeft();
         operandsLeft();
         pathsGone();
+        pathsFarApart();
         Due.end("EdgeAgainTest");
     }
 
@@ -160,21 +161,25 @@ public final class EdgeAgainTest {
         Due.is("printed", house.printed(0), 10);
     }
 
-    /** The NUMBER of the PATH from the loop that a turn goes whose bits tell which ifs are yes. */
-    private static int numberOf(int turn, int first) {
+    /** The NUMBER of a PATH through ifs that are yes where a bit is 1, if the PATH with all yes has the first number. */
+    private static int numberOf(int bits, int ifs, int first) {
         int number = first;
-        for (int bit = 0; bit < BITS; bit++) {
-            int behind = (2 << (BITS - 1 - bit)) - 1;
-            number += (turn >> bit & 1) == 1 ? 0 : behind;
+        for (int bit = 0; bit < ifs; bit++) {
+            int behind = (2 << (ifs - 1 - bit)) - 1;
+            number += (bits >> bit & 1) == 1 ? 0 : behind;
         }
         return number;
     }
 
+    private static void addIfs(StringBuilder text, String of, int ifs) {
+        for (int bit = 0; bit < ifs; bit++) {
+            text.append("if(").append(of).append('/').append(1 << bit).append("%2){}");
+        }
+    }
+
     private static MeasuringHouse houseOfPaths(int runs) {
         StringBuilder text = new StringBuilder("a(){for i=0 to 1023{");
-        for (int bit = 0; bit < BITS; bit++) {
-            text.append("if(i/").append(1 << bit).append("%2){}");
-        }
+        addIfs(text, "i", BITS);
         MeasuringHouse house = new MeasuringHouse();
         Due.is("load", Due.load(house, text.append("}}").toString()), 1);
         Due.is("PATHS", house.member(0, 6), 4097);
@@ -185,22 +190,50 @@ public final class EdgeAgainTest {
         return house;
     }
 
+    /** 900 PATHS gone, far from one another: x goes through the numbers below 131072, as a turn does in the text, too. */
+    private static void pathsFarApart() {
+        int ifs = 17;
+        StringBuilder text = new StringBuilder("a(){x=1;for i=1 to 900{x=(x*1105+12345)%131072;");
+        addIfs(text, "x", ifs);
+        for (int part = 0; part < 3; part++) {
+            MeasuringHouse house = new MeasuringHouse();
+            Due.is("load", Due.load(house, text + "}}"), 1);
+            Due.is("PATHS", house.member(0, 6), 262147 + 262145);
+            house.begin(0, 0, 0, 0);
+            Due.is("steps", house.run(20000), 3 + 900 * (ifs + 2));
+            int x = 1;
+            for (int turn = 0; turn < 900; turn++) {
+                x = (x * 1105 + 12345) % 131072;
+                if (turn / 300 == part) {
+                    int number = numberOf(x, ifs, turn == 0 ? 0 : 262147);
+                    Due.is("gone in turn " + turn, house.gone(0, number), 1);
+                    if (x >= 65536) {
+                        Due.is("by failure at the last if", house.gone(0, number + 2), 0);
+                    }
+                }
+            }
+            Due.is("no", house.gone(0, 262147 + 262144), 1);
+            Due.is("how many", house.most(0, 900) == NONE ? 0 : 1, 1);
+            Due.is("not more", house.most(0, 901), NONE);
+        }
+    }
+
     /** 1,024 PATHS gone, each once: by NUMBER, and in the order in which they are told. */
     private static void pathsGone() {
         for (int part = 0; part < 4; part++) {
             MeasuringHouse house = houseOfPaths(part == 3 ? 30 : 1);
             for (int turn = 256 * part; turn < 256 * part + 256; turn++) {
-                int number = turn == 0 ? numberOf(0, 0) : numberOf(turn, 2049);
+                int number = turn == 0 ? numberOf(0, BITS, 0) : numberOf(turn, BITS, 2049);
                 Due.is("gone " + turn, house.gone(0, number), 1);
             }
             Due.is("yes and no only", house.gone(0, 2049 + 2046), 0);
             Due.is("no", house.gone(0, 2049 + 2047), 1);
         }
         MeasuringHouse house = houseOfPaths(3);
-        Due.is("the least NUMBER", house.most(0, 0), numberOf(0, 0));
+        Due.is("the least NUMBER", house.most(0, 0), numberOf(0, BITS, 0));
         Due.is("the next one: all yes", house.most(0, 1), 2049);
         Due.is("the last one: no", house.most(0, 1024), 4096);
-        Due.is("the one ahead of it", house.most(0, 1023), numberOf(512, 2049));
+        Due.is("the one ahead of it", house.most(0, 1023), numberOf(512, BITS, 2049));
         Due.is("none more", house.most(0, 1025), NONE);
     }
 }
