@@ -7,6 +7,7 @@ public final class EdgeTextTest {
     private static final String BEGIN_FACTORS = " start new len ";
 
     public static void main(String[] arguments) {
+        newObject();
         lengths();
         tokens();
         everyByte();
@@ -19,6 +20,20 @@ public final class EdgeTextTest {
         feedAndLoad();
         faultAsked();
         Due.end("EdgeTextTest");
+    }
+
+    private static void newObject() {
+        Due.is("NONE", MeasuringHouse.NONE, -1);
+        Due.play("Promise 1: no text, an empty tape, prices 1 (17: 0), arguments 0", """
+            load(1) = -2
+            member(0, 0) = -1
+            price(*, 7) = -1 -1 -1 1 1 1 1 1 1 1 1 1 1 1 1 1 1 0 -1
+            price(*, 7) = -1 -1 -1 7 7 7 7 7 7 7 7 7 7 7 7 7 7 7 -1
+            argument(*, 7) = 0 0 0 0 -1
+            argument(*, 7) = 7 7 7 7 -1
+            load(0) = -1
+            fault(*) = 1 0
+            """);
     }
 
     private static void lengths() {
