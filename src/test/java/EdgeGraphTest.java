@@ -219,6 +219,41 @@ public final class EdgeGraphTest {
             most(0, 0) = -1
             path(0, 0, -1) = 3
             """);
+        Due.play("Promises 17, 19: the first NUMBERS and the last ones of several members, each gone", """
+            text `a(p){try{b(p);}catch e{}if(p=0){}x=1/p;}b(p){if(p){x=p/(p-1);}}` = 2
+            paths(1) = 3 0 1 4 / 3 0 1 5 / 2 0 2 / 2 0 3
+            paths(0) = 4 0 1 4 7 / 4 0 1 4 8 / 4 0 1 5 7 / 4 0 1 5 8 / 3 0 1 6 / 5 0 2 3 4 7 / 5 0 2 3 4 8 / 5 0 2 3 5 7 / 5 0 2 3 5 8 / 4 0 2 3 6
+            begin(0, 0, 0, 0) = 1
+            run(9) = 4
+            gone(0, *) = 0 1 0 0 0 0 0 0 0 0 -1
+            gone(1, *) = 0 0 1 0 -1
+            most(0, *) = 1 -1
+            most(1, *) = 2 -1
+            argument(0, 1) = 0
+            begin(0, 0, 0, 0) = 1
+            run(9) = 6
+            gone(0, *) = 0 0 0 0 0 0 0 1 0 0 -1
+            gone(1, *) = 0 1 0 0 -1
+            most(0, *) = 7 -1
+            most(1, *) = 1 -1
+            argument(0, 2) = 1
+            begin(0, 0, 0, 0) = 1
+            run(9) = 5
+            gone(0, *) = 0 0 1 0 0 0 0 0 0 0 -1
+            gone(1, *) = 1 0 0 0 -1
+            most(0, *) = 2 -1
+            most(1, *) = 0 -1
+            text `a(p){x=1/0;}b(){if(nil+1){}}c(){b();}` = 3
+            begin(0, 0, 0, 0) = 1
+            run(9) = 1
+            gone(0, *) = 0 1 -1
+            most(0, *) = 1 -1
+            begin(2, 0, 0, 0) = 1
+            run(9) = 2
+            gone(1, *) = 0 0 1 -1
+            gone(2, *) = 0 1 -1
+            most(1, *) = 2 -1
+            """);
         Due.play("Promise 16: counts are those gone so far, ENTRY's with the call", """
             text `a(){x=b()+b();}b(){return c();}c(){}` = 3
             begin(0, 0, 0, 0) = 1
