@@ -175,9 +175,9 @@ public final class MeasuringHouse {
     private boolean loaded = false;
     private int faultSort = NONE;
     private int faultPlace = NONE;
-    private final Reader reader = new Reader();
+    private final Reader reader = new Reader(spare);
     private final Chart chart = new Chart();
-    private final Formulas formulas = new Formulas();
+    private final Formulas formulas = new Formulas(text);
     private final Keeper[] keepers = new Keeper[MOST_KEEPERS];
     private final Run present;
     private final int[] prices = new int[PRICES];
@@ -190,7 +190,7 @@ public final class MeasuringHouse {
         for (int i = 0; i < MOST_KEEPERS; i++) {
             keepers[i] = new Keeper();
         }
-        present = new Run(keepers);
+        present = new Run(keepers, text, chart);
         Arrays.fill(prices, 1);
         prices[ELEMENT] = 0;
     }
@@ -356,7 +356,7 @@ public final class MeasuringHouse {
         for (int i = 0; i < MOST_KEEPERS; i++) {
             keepers[i].empty();
         }
-        present.prepare(text, chart, prices, fold == 1);
+        present.prepare(text, prices, fold == 1);
         present.open(m, arguments, seed, every);
         return 1;
     }
@@ -786,7 +786,7 @@ public final class MeasuringHouse {
         private final long[] memberWords = new long[MEMBER_ROOM];
         private final long[] names = new long[NAME_ROOM];
         private int nameCount = 0;
-        private Text text = null;
+        private Text text;
         private int tokens = 0;
         private int now = 0;
         private int open = 0;
@@ -799,7 +799,8 @@ public final class MeasuringHouse {
         private int loopDepth = 0;
         private int lockDepth = 0;
 
-        Reader() {
+        Reader(Text first) {
+            text = first;
             int key = 0;
             for (int i = 0; i < KEY_WORDS.length(); i++) {
                 if (KEY_WORDS.charAt(i) == ' ') {
@@ -1742,10 +1743,12 @@ public final class MeasuringHouse {
         private final long[] whole = new long[TERMS];
         private final long[] product = new long[TERMS];
         private final long[] factor = new long[TERMS];
-        private Text text = null;
+        private Text text;
+        private boolean workedOut = false;
         private int current = 0;
 
-        Formulas() {
+        Formulas(Text first) {
+            text = first;
             int t = 0;
             for (int i = 0; i < 625 && t < TERMS; i++) {
                 int sum = i / 125 + i / 25 % 5 + i / 5 % 5 + i % 5;
@@ -1778,14 +1781,15 @@ public final class MeasuringHouse {
         }
 
         void forget() {
-            text = null;
+            workedOut = false;
         }
 
         /** Members come when all that they call have come; those left then call in a ring, or lean on one. */
         void workOut(Text of) {
-            if (text == of) {
+            if (workedOut) {
                 return;
             }
+            workedOut = true;
             text = of;
             for (int m = 0; m < MOST_MEMBERS; m++) {
                 known[m] = false;
@@ -2285,13 +2289,13 @@ public final class MeasuringHouse {
         private static final long CHANCE_ROUND = 2147483648L;
         private static final long CHANCE_CUT = 65536L;
 
-        final Ledger ledger = new Ledger();
+        final Ledger ledger;
         final Costs costs = new Costs();
         final Store store = new Store();
         private final Strand[] strands = new Strand[MOST_STRANDS];
         private final Lock[] locks = new Lock[MOST_LOCKS];
         private final Keeper[] keepers;
-        private Text text = null;
+        private Text text;
         int condition = NO_RUN;
         int strandCount = 0;
         private int steps = 0;
@@ -2300,18 +2304,21 @@ public final class MeasuringHouse {
         private int every = 0;
         private int activations = 0;
         // The step under way: whose it is, what is to be done next, and what that needs.
-        private Strand strand = null;
+        private Strand strand;
         private int doing = DONE;
         private int code = 0;
         private int way = 0;
         private int failure = 0;
         private long carried = 0;
 
-        Run(Keeper[] all) {
+        Run(Keeper[] all, Text first, Chart chart) {
             keepers = all;
+            text = first;
+            ledger = new Ledger(first, chart);
             for (int i = 0; i < MOST_STRANDS; i++) {
                 strands[i] = new Strand();
             }
+            strand = strands[0];
             for (int i = 0; i < MOST_LOCKS; i++) {
                 locks[i] = new Lock();
             }
@@ -2325,9 +2332,9 @@ public final class MeasuringHouse {
             condition = NO_RUN;
         }
 
-        void prepare(Text of, Chart chart, int[] prices, boolean fold) {
+        void prepare(Text of, int[] prices, boolean fold) {
             text = of;
-            ledger.clear(of, chart);
+            ledger.clear(of);
             costs.clear(prices, fold);
             store.clear();
             for (int i = 0; i < MOST_LOCKS; i++) {
@@ -3310,7 +3317,7 @@ public final class MeasuringHouse {
                     gatherFrame(strands[t], inner);
                 }
             }
-            for (int i = 0; i < rowLength; i++) {
+            for (int i = 0; i < MOST_ARRAYS && i < rowLength; i++) {
                 int first = array[ARRAY_FIRST][row[i]];
                 for (int k = 0; k < array[ARRAY_SIZE][row[i]]; k++) {
                     come(elements[first + k], row[i]);
@@ -3328,7 +3335,7 @@ public final class MeasuringHouse {
         }
 
         private void come(long value, int by) {
-            if (isArray(value) && holder[numberOf(value)] == NONE) {
+            if (isArray(value) && rowLength < MOST_ARRAYS && holder[numberOf(value)] == NONE) {
                 holder[numberOf(value)] = by;
                 row[rowLength] = numberOf(value);
                 rowLength++;
@@ -3397,8 +3404,8 @@ public final class MeasuringHouse {
         final int[][] failures = new int[4][FAILURE_KINDS];
         final int[] memberCalls = new int[MOST_MEMBERS];
         final int[] memberCosts = new int[MOST_MEMBERS];
-        private Text text = null;
-        private Chart chart = null;
+        private Text text;
+        private final Chart chart;
         /** The PATHS gone, by a key of member and NUMBER (0: a free place), and how often. */
         private final int[] keys = new int[TABLE_ROOM];
         private final int[] times = new int[TABLE_ROOM];
@@ -3409,9 +3416,13 @@ public final class MeasuringHouse {
         /** The member whose PATHS stand in order, NONE when they may do so no longer. */
         private int ordered = NONE;
 
-        void clear(Text of, Chart by) {
-            text = of;
+        Ledger(Text first, Chart by) {
+            text = first;
             chart = by;
+        }
+
+        void clear(Text of) {
+            text = of;
             Arrays.fill(ways, 0);
             for (int i = 0; i < LOOP_ROWS; i++) {
                 Arrays.fill(loops[i], i == LOOP_LEAST || i == LOOP_GREATEST ? NONE : 0);
