@@ -1963,8 +1963,10 @@ public final class MeasuringHouse {
 
         /** The product is multiplied by an UP: whether it stays within degree and numbers. */
         private boolean multiply(long[] parts) {
-            System.arraycopy(product, 0, factor, 0, TERMS);
-            Arrays.fill(product, 0);
+            for (int t = 0; t < TERMS; t++) {
+                factor[t] = product[t];
+                product[t] = 0;
+            }
             for (int i = 0; i < PARTS * TERMS; i++) {
                 long part = parts[i / TERMS];
                 long number = factor[i % TERMS];
@@ -3054,7 +3056,8 @@ public final class MeasuringHouse {
         }
 
         int nest(int loopsAround) {
-            return (depth - 1) * NESTS + Math.max(0, Math.min(loopsAround, NESTS - 1));
+            int nest = loopsAround < NESTS ? loopsAround : NESTS - 1;
+            return (depth - 1) * NESTS + (nest > 0 ? nest : 0);
         }
 
         void push(long value) {
